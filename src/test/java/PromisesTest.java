@@ -237,6 +237,7 @@ public final class PromisesTest {
         reads("drum 2 0 ", -19);
         reads("drum", -14);
         reads("dru", -10);
+        reads("crum 2 0 0;", -10);
         reads("drums 2 0 0;", -10);
         reads("drum two 0 0;", -15);
         reads("drum 002 0 0;", -15);
@@ -255,6 +256,9 @@ public final class PromisesTest {
         reads(d + "7;", -21);
         reads(d + "777", -21);
         reads(d + "drawn 1;", -21);
+        reads(d + "drawz 1;", -21);
+        reads(d + "drawa 1;", -21);
+        reads(d + "bye 1;", -21);
         reads(d + "Draw 1;", -21);
         reads(d + "draw 1;", 2);
         reads(d + "draw 0 9;", 2);
@@ -603,6 +607,10 @@ public final class PromisesTest {
         due("tell()", x.tell(), -1);
         due("these are not refused", x.status(0) + x.status(1) + x.status(2), refusedBefore);
         for (int j : new int[] {MIN, -11, -2}) bad10(x, "began", j);
+        ZoeStrips late = drum(4, 0, 2, 0, 2, 8, 2);
+        late.seen(26, 2);
+        late.seen(17, 2);
+        due("tell() at its end", late.tell(), 30);
     }
 
     private static void promise23And26And27() {
@@ -699,6 +707,12 @@ public final class PromisesTest {
         due("hands(1, 0, MAX)", x.hands(1, 0, MAX), -5);
         due("-5 is not refused", x.status(0) + x.status(1) + x.status(2), refusedBefore);
         due("the step stays", x.count(2), 5);
+        // MOVES by 0 .. 6 together: 0, 0, 2, 2, 0, 0, 4 (FRAME 6 comes every other FLASH, once, or never).
+        ZoeStrips far = drum(0, 0, 0, 0, 0, 0, 0, 0, 9, 0, 0, 0, 0, 0);
+        eyes(far, 0, 2);
+        int[] farPairs = {2, 11, 12, 20, 21, 33};
+        due("hands(0, 1, NONE)", far.hands(0, 1, -1), 6);
+        for (int k = 0; k < 6; k++) due("hands(0, 1, k)", far.hands(0, 1, k), farPairs[k]);
         for (int e : new int[] {MIN, -1, 3, 5, MAX}) {
             bad10(x, "hands", e, 0, -1);
             bad10(x, "hands", 0, e, -1);
