@@ -695,35 +695,19 @@ public final class ZoeStrips {
             switch (kind) {
                 case 1: return twice(step);
                 case 2: return jerk(step, flash);
-                case 3: return gas(step, flash);
-                case 4: return candle(step, flash);
-                case 5: return sun(step);
-                default: return steady(step);
+                case 3: return flash % 4 == 0 ? twice(step) + 1 : twice(step);
+                case 4: return flash % 5 == 4 ? 0 : jerk(step, flash);
+                case 5: return Math.max(1, step);
+                default: return step;
             }
         }
 
-        private static int steady(int step) {
-            return step;
-        }
-
         private static int twice(int step) {
-            return 2 * steady(step);
+            return 2 * step;
         }
 
         private static int jerk(int step, int flash) {
-            return steady(step) + (flash % 2 != 0 ? 1 : 0);
-        }
-
-        private static int gas(int step, int flash) {
-            return twice(step) + (flash % 4 == 0 ? 1 : 0);
-        }
-
-        private static int candle(int step, int flash) {
-            return flash % 5 == 4 ? 0 : jerk(step, flash);
-        }
-
-        private static int sun(int step) {
-            return Math.max(1, steady(step));
+            return flash % 2 == 0 ? step : step + 1;
         }
     }
 
@@ -733,38 +717,23 @@ public final class ZoeStrips {
             switch (kind) {
                 case 1: return lazy(drawing, kept);
                 case 2: return sharp(drawing, kept);
-                case 3: return old(drawing, kept);
-                case 4: return child(drawing, kept);
-                case 5: return cat(drawing, kept);
-                default: return plain(drawing);
+                case 3: return drawing == 0 ? kept : lazy(drawing, kept);
+                case 4: return child(sharp(drawing, kept), kept);
+                case 5: return drawing == kept ? 0 : drawing;
+                default: return drawing;
             }
         }
 
-        private static int plain(int drawing) {
-            return drawing;
-        }
-
         private static int lazy(int drawing, int kept) {
-            return (plain(drawing) + kept) / 2;
+            return (drawing + kept) / 2;
         }
 
         private static int sharp(int drawing, int kept) {
-            int sight = plain(drawing);
-            return Math.abs(sight - kept) == 1 ? kept : sight;
+            return Math.abs(drawing - kept) == 1 ? kept : drawing;
         }
 
-        private static int old(int drawing, int kept) {
-            return drawing == 0 ? kept : lazy(drawing, kept);
-        }
-
-        private static int child(int drawing, int kept) {
-            int sight = sharp(drawing, kept);
-            return sight > kept ? Math.min(DRAWINGS - 1, sight + 1) : sight;
-        }
-
-        private static int cat(int drawing, int kept) {
-            int sight = plain(drawing);
-            return sight == kept ? 0 : sight;
+        private static int child(int sharpSight, int kept) {
+            return sharpSight > kept ? Math.min(DRAWINGS - 1, sharpSight + 1) : sharpSight;
         }
     }
 
@@ -990,20 +959,24 @@ public final class ZoeStrips {
         }
     }
 
-    /** THE TEXT, and its reading: a TOKEN at a time, so that a FAULT is the place of the one at hand. */
+    /** THE TEXT, and its reading: TOKENS first, ITEMS over them second. */
     private static final class Text {
         private static final int END = 0, NUMBER = 1, STOP = 2, WRONG = 3;
         private static final int DRUM = 4, DRAW = 5, EYE = 6, STEP = 7, TURN = 8;
+        private static final int BLANK = 0, LETTER = 1, FIGURE = 2, SIGN = 3;
 
         private final int[] bytes = new int[TEXT_ROOM];
         int length;
         /** Behind a FAULT all stays, so THE TEXT is read into a drum apart. */
         final Show draft = new Show();
 
-        private int start;
-        private int next;
-        private int token;
-        private int value;
+        /** Of each TOKEN, and of the END behind the last: its first place, the place behind it, what it is. */
+        private final int[] starts = new int[TEXT_ROOM + 1];
+        private final int[] ends = new int[TEXT_ROOM + 1];
+        private final int[] tokens = new int[TEXT_ROOM + 1];
+        private final int[] values = new int[TEXT_ROOM + 1];
+        /** The TOKEN at hand: at a FAULT it is the one that can not stand there. */
+        private int current;
 
         boolean isFull() {
             return length >= TEXT_ROOM;
@@ -1023,167 +996,178 @@ public final class ZoeStrips {
 
         /** How many ITEMS, or -10 less the FAULT. */
         int readDraft() {
-            next = 0;
-            takeToken();
-            if (token != DRUM || !takeDrum()) {
-                return BAD_TEN - start;
+            nameTokens(splitTokens());
+            current = 0;
+            if (token() != DRUM || !takeDrum()) {
+                return fault();
             }
             int items = 1;
             while (items <= TEXT_ROOM) {
-                takeToken();
-                if (token == END) {
+                current++;
+                if (token() == END) {
                     break;
                 }
                 if (!takeItem()) {
-                    return BAD_TEN - start;
+                    return fault();
                 }
                 items++;
             }
             return items;
         }
 
+        private int fault() {
+            return BAD_TEN - cell(starts, current);
+        }
+
         private boolean takeDrum() {
             if (!takeNumber(LEAST_FRAMES, MOST_FRAMES)) {
                 return false;
             }
-            int frames = value;
+            int frames = value();
             if (!takeNumber(0, KINDS - 1)) {
                 return false;
             }
-            int lamp = value;
+            int lamp = value();
             if (!takeNumber(0, STEPS - 1)) {
                 return false;
             }
-            draft.begin(frames, lamp, value);
+            draft.begin(frames, lamp, value());
             return takeStop();
         }
 
         private boolean takeItem() {
-            switch (token) {
-                case DRAW: return takeDraw();
-                case EYE: return takeEye();
-                case STEP: return takeStep();
-                case TURN: return takeTurn();
-                default: return false;
+            switch (token()) {
+                case DRAW:
+                    return takeDraw();
+                case EYE:
+                    if (draft.eyes >= EYES || !takeNumber(0, KINDS - 1)) {
+                        return false;
+                    }
+                    draft.addEye(value());
+                    return takeStop();
+                case STEP:
+                    if (!takeNumber(0, STEPS - 1)) {
+                        return false;
+                    }
+                    draft.moment.step = value();
+                    return takeStop();
+                case TURN:
+                    if (!takeNumber(1, TEXT_TURN_FAR)) {
+                        return false;
+                    }
+                    draft.turn(value());
+                    return takeStop();
+                default:
+                    return false;
             }
         }
 
         private boolean takeDraw() {
-            if (!takeNumber(0, DRAWINGS - 1)) {
-                return false;
-            }
             for (int f = 0; f < draft.frames; f++) {
-                put(draft.moment.drawings, f, value);
-                takeToken();
-                if (token == STOP) {
-                    return true;
+                if (!takeNumber(0, DRAWINGS - 1)) {
+                    return f > 0 && token() == STOP;
                 }
-                if (!isNumber(0, DRAWINGS - 1)) {
-                    return false;
-                }
+                put(draft.moment.drawings, f, value());
             }
-            return false;
-        }
-
-        private boolean takeEye() {
-            if (draft.eyes >= EYES || !takeNumber(0, KINDS - 1)) {
-                return false;
-            }
-            draft.addEye(value);
-            return takeStop();
-        }
-
-        private boolean takeStep() {
-            if (!takeNumber(0, STEPS - 1)) {
-                return false;
-            }
-            draft.moment.step = value;
-            return takeStop();
-        }
-
-        private boolean takeTurn() {
-            if (!takeNumber(1, TEXT_TURN_FAR)) {
-                return false;
-            }
-            draft.turn(value);
             return takeStop();
         }
 
         private boolean takeNumber(int low, int high) {
-            takeToken();
-            return isNumber(low, high);
-        }
-
-        private boolean isNumber(int low, int high) {
-            return token == NUMBER && within(value, low, high);
+            current++;
+            return token() == NUMBER && within(value(), low, high);
         }
 
         private boolean takeStop() {
-            takeToken();
-            return token == STOP;
+            current++;
+            return token() == STOP;
         }
 
-        private void takeToken() {
-            while (next < length && byteAt(next) == ' ') {
-                next++;
+        private int token() {
+            return cell(tokens, current);
+        }
+
+        private int value() {
+            return cell(values, current);
+        }
+
+        /** How many TOKENS there are, the END not among them. */
+        private int splitTokens() {
+            int size = 0;
+            int before = BLANK;
+            for (int i = 0; i < length; i++) {
+                int sort = sortOf(cell(bytes, i));
+                boolean goesOn = sort == before && (sort == LETTER || sort == FIGURE);
+                if (sort != BLANK && !goesOn) {
+                    put(starts, size, i);
+                    size++;
+                }
+                if (sort != BLANK) {
+                    put(ends, size - 1, i + 1);
+                }
+                before = sort;
             }
-            start = next;
-            if (next >= length) {
-                token = END;
-            } else if (isLetter(byteAt(next))) {
-                passWord();
-            } else if (isFigure(byteAt(next))) {
-                passFigures();
-            } else {
-                token = byteAt(next) == ';' ? STOP : WRONG;
-                next++;
+            return size;
+        }
+
+        private void nameTokens(int size) {
+            for (int i = 0; i < size; i++) {
+                put(tokens, i, tokenFrom(cell(starts, i), cell(ends, i)));
+                put(values, i, numberFrom(cell(starts, i), cell(ends, i)));
+            }
+            put(tokens, size, END);
+            put(starts, size, length);
+        }
+
+        private int tokenFrom(int start, int end) {
+            int first = cell(bytes, start);
+            switch (sortOf(first)) {
+                case LETTER: return wordFrom(start, end);
+                case FIGURE: return end - start > 2 ? WRONG : NUMBER;
+                default: return first == ';' ? STOP : WRONG;
             }
         }
 
-        private void passWord() {
-            while (next < length && isLetter(byteAt(next))) {
-                next++;
+        private int wordFrom(int start, int end) {
+            if (isWord("drum", start, end)) {
+                return DRUM;
             }
-            token = wordIs("drum") ? DRUM
-                    : wordIs("draw") ? DRAW
-                    : wordIs("eye") ? EYE
-                    : wordIs("step") ? STEP
-                    : wordIs("turn") ? TURN
-                    : WRONG;
+            if (isWord("draw", start, end)) {
+                return DRAW;
+            }
+            if (isWord("eye", start, end)) {
+                return EYE;
+            }
+            if (isWord("step", start, end)) {
+                return STEP;
+            }
+            return isWord("turn", start, end) ? TURN : WRONG;
         }
 
-        private boolean wordIs(String word) {
-            if (next - start != word.length()) {
+        private boolean isWord(String word, int start, int end) {
+            if (end - start != word.length()) {
                 return false;
             }
             for (int i = 0; i < word.length(); i++) {
-                if (byteAt(start + i) != word.charAt(i)) {
+                if (cell(bytes, start + i) != word.charAt(i)) {
                     return false;
                 }
             }
             return true;
         }
 
-        private void passFigures() {
-            value = 0;
-            while (next < length && isFigure(byteAt(next))) {
-                // A third figure makes the run no number; its value does not matter any more.
-                value = (value * 10 + byteAt(next) - '0') % 1000;
-                next++;
+        private int numberFrom(int start, int end) {
+            int tens = end - start > 1 ? cell(bytes, start) - '0' : 0;
+            return 10 * tens + cell(bytes, end - 1) - '0';
+        }
+
+        private static int sortOf(int c) {
+            if (c == ' ') {
+                return BLANK;
             }
-            token = next - start > 2 ? WRONG : NUMBER;
-        }
-
-        private int byteAt(int place) {
-            return cell(bytes, place);
-        }
-
-        private static boolean isLetter(int c) {
-            return c >= 'a' && c <= 'z';
-        }
-
-        private static boolean isFigure(int c) {
-            return c >= '0' && c <= '9';
+            if (c >= 'a' && c <= 'z') {
+                return LETTER;
+            }
+            return c >= '0' && c <= '9' ? FIGURE : SIGN;
         }
     }
 
