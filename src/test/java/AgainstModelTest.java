@@ -39,7 +39,7 @@ public final class AgainstModelTest {
 
     private void go() {
         int wildOneIn = random.nextBoolean() ? 4 : 40;
-        int calls = 0;
+        int calls = random.nextInt(6) == 0 ? turnNearTheEnd() : 0;
         while (right && calls < 500) {
             int kind = random.nextInt(30);
             if (kind == 0) calls += typeText(text());
@@ -51,6 +51,16 @@ public final class AgainstModelTest {
             both("digest");
             calls++;
         }
+    }
+
+    /** A drum with eyes, a few FLASHES ahead of the last one, which an object's 512 calls can just reach. */
+    private int turnNearTheEnd() {
+        both("drum", 2 + random.nextInt(11), random.nextInt(6), random.nextInt(12));
+        drawAll();
+        for (int i = random.nextInt(6); i > 0; i--) both("eye", random.nextInt(6));
+        for (int i = 0; i < 166; i++) both("spins", 60);
+        both("spins", 1 + random.nextInt(39));
+        return 190;
     }
 
     private int typeText(String text) {

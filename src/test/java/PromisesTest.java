@@ -1,16 +1,5 @@
 /** For each promise of the document: ordinary inputs, the edges it names, and wrong inputs. */
-public final class PromisesTest {
-    private static final int MIN = Integer.MIN_VALUE, MAX = Integer.MAX_VALUE;
-    private static int wrong = 0;
-    private static String part = "";
-
-    private static void due(String call, long got, long want) {
-        if (got != want) {
-            wrong++;
-            System.out.println(part + ": " + call + " answered " + got + ", due is " + want);
-        }
-    }
-
+public final class PromisesTest extends Checks {
     public static void main(String[] args) {
         promise1();
         promise2();
@@ -43,68 +32,7 @@ public final class PromisesTest {
         promise36();
         promise37();
         promise38();
-        System.out.println(wrong == 0 ? "PromisesTest: all answers are as due" : "PromisesTest: " + wrong + " wrong");
-        if (wrong != 0) System.exit(1);
-    }
-
-    /** A drum that is drawn frame by frame. */
-    private static ZoeStrips drum(int lamp, int step, int... drawings) {
-        ZoeStrips x = new ZoeStrips();
-        x.drum(drawings.length, lamp, step);
-        for (int f = 0; f < drawings.length; f++) x.draws(f, drawings[f]);
-        return x;
-    }
-
-    private static void eyes(ZoeStrips x, int... kinds) {
-        for (int kind : kinds) x.eye(kind);
-    }
-
-    private static int read(ZoeStrips x, String text) {
-        x.clear();
-        for (int i = 0; i < text.length(); i++) x.type(text.charAt(i));
-        return x.read();
-    }
-
-    private static void counts(ZoeStrips x, int... want) {
-        for (int i = 0; i < want.length; i++) due("count(" + i + ")", x.count(i), want[i]);
-    }
-
-    private static void statuses(ZoeStrips x, int bad, int no, int full) {
-        due("status(0)", x.status(0), bad);
-        due("status(1)", x.status(1), no);
-        due("status(2)", x.status(2), full);
-    }
-
-    private static void fraction(ZoeStrips x, long above, long below) {
-        due("part(0)", x.part(0), above);
-        due("part(1)", x.part(1), below);
-    }
-
-    /** One call that is refused: its answer, its reason counted, nothing else changed. */
-    private static void refused(ZoeStrips x, int reason, long want, String call, int... a) {
-        long digest = x.digest();
-        int before = x.status(reason);
-        int all = x.status(0) + x.status(1) + x.status(2);
-        due(call, Calls.answer(x, call, a), want);
-        due(call + " counted", x.status(reason), before + 1);
-        due(call + " counted once", x.status(0) + x.status(1) + x.status(2), all + 1);
-        due(call + " changes nothing", x.digest(), digest);
-    }
-
-    private static void bad(ZoeStrips x, String call, int... a) {
-        refused(x, 0, -2, call, a);
-    }
-
-    private static void no(ZoeStrips x, String call, int... a) {
-        refused(x, 1, -3, call, a);
-    }
-
-    private static void full(ZoeStrips x, String call, int... a) {
-        refused(x, 2, -4, call, a);
-    }
-
-    private static void bad10(ZoeStrips x, String call, int... a) {
-        refused(x, 0, -10, call, a);
+        end("PromisesTest");
     }
 
     private static void promise1() {
@@ -380,10 +308,6 @@ public final class PromisesTest {
         due("the cat's moves", cat.of(0, 2), 3);
     }
 
-    private static void keeps(ZoeStrips x, int... want) {
-        for (int e = 0; e < want.length; e++) due("eye " + e + " keeps", x.of(e, 1), want[e]);
-    }
-
     private static void promise8End() {
         part = "promise 8, 9999";
         ZoeStrips x = drum(3, 0, 0, 9);
@@ -501,7 +425,7 @@ public final class PromisesTest {
         due("round() without eyes", x.round(), 5);
         x.eye(0);
         due("round()", x.round(), -1);
-        due("none is not refused", x.status(0) + x.status(1) + x.status(2), 1);
+        due("none is not refused", refusals(x), 0);
         x.spins(5);
         due("round()", x.round(), 5);
         x.steps(0);
