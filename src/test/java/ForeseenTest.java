@@ -278,6 +278,11 @@ public final class ForeseenTest extends Checks {
         flat.eye(0);
         due("all are like ones", flat.most(0, 9, 0), 0);
         due("none more", flat.most(0, 9, 1), 0);
+        // By 12, were it a STEP, SUN would leave FRAME 0 at hand, and the eye would see it.
+        ZoeStrips sun = drum(5, 1, 5, 0, 0, 0, 0, 0, 0, 0, 0, 0, 0, 0);
+        sun.eye(0);
+        due("11 is the last: the step", sun.most(0, 1, 0), 0);
+        due("11 is the last: how many more", sun.most(0, 1, 1), 0);
         x.steps(1);
         toTheEnd(x);
         moves(x, 9999);
@@ -300,6 +305,10 @@ public final class ForeseenTest extends Checks {
         smooths(new int[] {9, 7}, 1, 6, 7);
         smooths(new int[] {4, 4, 4, 6, 4}, 1, 4, 4, 4, 3, 4);
         smooths(new int[] {4, 4, 5, 6, 5}, 0, 4, 4, 5, 6, 5);
+        // Up by 2 and down by 1 and 1, and the other way.
+        smooths(new int[] {0, 2, 1}, 1, 0, 0, 1);
+        smooths(new int[] {2, 0, 1}, 1, 0, 0, 1);
+        smooths(new int[] {9, 7, 8}, 1, 7, 7, 8);
         smooths(new int[] {0, 9, 0, 9}, 2, 0, 0, 0, 0);
     }
 
@@ -308,6 +317,7 @@ public final class ForeseenTest extends Checks {
         smooths(new int[] {0, 1, 2, 3}, 1, 0, 1, 2, 1);
         smooths(new int[] {0, 1, 2}, 1, 0, 1, 0);
         smooths(new int[] {0, 1, 1}, 0, 0, 1, 1);
+        smooths(new int[] {4, 0, 1, 2, 3, 4, 5, 6, 7, 8, 9, 9}, 5, 1, 0, 1, 2, 3, 4, 5, 6, 5, 4, 3, 2);
         smooths(new int[] {0, 1, 2, 3, 4, 5, 6, 7, 8, 9, 9, 9}, 4, 8, 7, 6, 5, 4, 5, 6, 7, 8, 9, 9, 9);
     }
 
@@ -386,6 +396,12 @@ public final class ForeseenTest extends Checks {
         due("began(1) by TWICE", x.began(1), 1);
         x.lamp(5);
         due("began(0) by SUN", x.began(0), 2);
+        // 30 FLASHES by an odd STEP bring FRAME 6 of 12 to hand from FRAME 0, by an even one from FRAME 6.
+        ZoeStrips far = drum(0, 1, 0, 0, 0, 0, 0, 0, 9, 0, 0, 0, 0, 0);
+        far.seen(30, 9);
+        int[] want = {1, 3, 5, 7, 9, 11, 72, 74, 76, 78, 80, 82};
+        due("began(NONE)", far.began(-1), 12);
+        for (int j = 0; j < 12; j++) due("began(" + j + ")", far.began(j), want[j]);
     }
 
     private static void beganRising() {
@@ -411,6 +427,14 @@ public final class ForeseenTest extends Checks {
         due("tell() at its end", late.tell(), 30);
         due("tell() parts best", late.tell(), reallyTell(late));
         due("tell() at its beginning", drum(0, 1, 1, 2).tell(), 1);
+        // Behind 31 FLASHES these would be parted better, and the next ones ahead of the first.
+        ZoeStrips later = drum(3, 1, 0, 3, 0, 0, 2, 3, 3, 0, 0, 0, 2, 2);
+        later.seen(13, 3);
+        later.seen(5, 0);
+        due("tell() looks no further than 30", later.tell(), reallyTell(later));
+        ZoeStrips sooner = drum(3, 1, 0, 1, 2, 1, 1, 0, 2, 1, 2);
+        sooner.seen(9, 2);
+        due("tell() looks at 1 at least", sooner.tell(), reallyTell(sooner));
     }
 
     /** By the answers of began alone: what most of those that fit have in common, behind k flashes. */
@@ -438,6 +462,14 @@ public final class ForeseenTest extends Checks {
         flat.seen(30, 4);
         due("none such", flat.tell(), -1);
         due("none is not refused", refusals(flat), 0);
+        // FRAME 3 by STEP 5 of 12 alone: all that one has is alike.
+        ZoeStrips one = drum(0, 1, 0, 1, 2, 3, 4, 5, 6, 7, 8, 9, 0, 1);
+        one.seen(1, 8);
+        one.seen(2, 1);
+        one.seen(3, 6);
+        due("began(NONE)", one.began(-1), 1);
+        due("began(0)", one.began(0), 41);
+        due("tell() of one alone", one.tell(), 1);
         ZoeStrips x = drum(3, 1, 0, 1, 2, 2, 5);
         x.seen(2, 2);
         due("tell()", x.tell(), reallyTell(x));

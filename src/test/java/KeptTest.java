@@ -5,6 +5,7 @@ public final class KeptTest extends Checks {
         sentence("n FLASHES (1 .. 60; together one that may be undone)", KeptTest::undoTogether);
         sentence("at 9999 none", KeptTest::undoAtTheEnd);
         sentence("(8 at most", KeptTest::undoEight);
+        sentence("DRAWINGS, what EYES KEEP, MOVES as ahead", KeptTest::undoOfTheFullest);
         sentence("behind a LAMP told, an EYE that comes none may be)", KeptTest::undoBehindLampAndEye);
         sentence("UNDO: the FLASH then. NO: none may be", KeptTest::undoNone);
         sentence("UNDO leaves all else", KeptTest::undoLeaves);
@@ -122,6 +123,27 @@ public final class KeptTest extends Checks {
         x.spins(1);
         due("count(10)", x.count(10), 1);
         due("undo()", x.undo(), 3);
+    }
+
+    /** 12 FRAMES, 5 EYES, 8 that may be undone: every one comes back whole, the last first. */
+    private static void undoOfTheFullest() {
+        ZoeStrips x = drum(4, 7, 1, 2, 3, 4, 5, 6, 7, 8, 9, 8, 7, 6);
+        eyes(x, 5, 4, 3, 1, 0);
+        for (int i = 0; i < 60; i++) x.spins(i + 1);
+        x.lamp(2);
+        long[] ahead = new long[8];
+        for (int i = 0; i < 8; i++) {
+            ahead[i] = x.digest();
+            if (i == 2) x.steps(5);
+            else if (i % 3 == 1) x.draws(11, i);
+            else x.spins(i + 1);
+        }
+        due("count(10)", x.count(10), 8);
+        for (int i = 7; i >= 0; i--) {
+            x.undo();
+            due("digest() ahead of the " + i + "th", x.digest(), ahead[i]);
+        }
+        drawings(x, 1, 2, 3, 4, 5, 6, 7, 8, 9, 8, 7, 6);
     }
 
     private static void undoBehindLampAndEye() {
@@ -440,7 +462,7 @@ public final class KeptTest extends Checks {
         due("digest() of a new object", new ZoeStrips().digest(), h);
         // All the rows full, so that the number wraps round.
         ZoeStrips x = drum(0, 1, 9, 8, 7, 6, 5, 4, 3, 2, 1, 2, 3, 4);
-        eyes(x, 0, 0, 0, 0, 0);
+        eyes(x, 0, 0, 5, 5, 2);
         x.spins(1);
         long want = 1787;
         for (int i = 1; i <= 6; i++) {
@@ -452,7 +474,7 @@ public final class KeptTest extends Checks {
         for (long v : new long[] {12, 0, 1, 1, 1, 5, 5, 6, 6, 6, 1, 0, 9, 8, 7, 6, 5, 4, 3, 2, 1, 2, 3, 4}) {
             want = 31 * want + v;
         }
-        for (int e = 0; e < 5; e++) for (long v : new long[] {0, 8, 1}) want = 31 * want + v;
+        for (int kind : new int[] {0, 0, 5, 5, 2}) for (long v : new long[] {kind, 8, 1}) want = 31 * want + v;
         for (int i = 1; i <= 6; i++) for (long v : new long[] {i, i + 1}) want = 31 * want + v;
         for (int i = 1; i <= 6; i++) for (long v : new long[] {i % 5, i, i + 1, i + 2}) want = 31 * want + v;
         for (int i = 1; i <= 6; i++) for (long v : new long[] {i, 10 * i, 5 * i}) want = 31 * want + v;

@@ -220,7 +220,8 @@ public final class TextTest extends Checks {
 
     private static void wordThatIsNone() {
         for (String word : new String[] {"d", "dru", "drums", "rum", "draws", "dra", "eyes", "ey", "ye", "steps",
-            "ste", "turns", "tur", "turnturn", "a", "z", "lamp", "spins", "undo"}) {
+            "ste", "turns", "tur", "turnturn", "a", "z", "lamp", "spins", "undo", "crum", "drun", "crew", "drav", "bye",
+            "eyf", "atep", "steq", "burn", "turm"}) {
             faultAt("^" + word + " 2 0 0;");
             faultAt(DRUM + "^" + word + " 1;");
             faultAt(DRUM + " ^" + word);
@@ -362,6 +363,12 @@ public final class TextTest extends Checks {
         ZoeStrips x = new ZoeStrips();
         due("read()", read(x, DRUM + "eye 1;"), 2);
         due("read() again", x.read(), 2);
+        due("count(5)", x.count(5), 1);
+        due("a longer one", read(x, DRUM + "eye 1;step 2;turn 3;draw 4 5;"), 5);
+        due("a shorter one behind it", read(x, DRUM), 1);
+        due("count(5)", x.count(5), 0);
+        due("a longer one", read(x, DRUM + "draw 4 5;eye 1;step 2;turn 3;"), 5);
+        due("one that ends too early behind it", read(x, "drum 3 0"), -18);
         due("count(5)", x.count(5), 1);
     }
 
