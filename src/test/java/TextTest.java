@@ -361,6 +361,9 @@ public final class TextTest extends Checks {
         reads("drum2 0 0;" + "turn1;".repeat(23), 24);
         reads("drum2 0 0;" + "eye1;".repeat(5) + "turn1;".repeat(19), 25);
         ZoeStrips x = new ZoeStrips();
+        due("as many flashes as there is room for", read(x, "drum7 0 1;" + "turn99;".repeat(20)), 21);
+        due("count(4)", x.count(4), 1980);
+        due("count(3)", x.count(3), 1980 % 7);
         due("read()", read(x, DRUM + "eye 1;"), 2);
         due("read() again", x.read(), 2);
         due("count(5)", x.count(5), 1);
