@@ -4,6 +4,8 @@ import java.util.Random;
 
 /** Long runs by a seed, held call by call against the slow model; wrong numbers, too. */
 public final class AgainstModelTest {
+    /** "An object is used for at most 512 calls after it has been made; what later calls answer is free." */
+    private static final int MOST_CALLS = 512;
     private static final String[] WORDS = {"drum", "draw", "eye", "step", "turn", "drums", "a", "-", "\t", "A", "\0"};
     private static final int[] WILD = {Integer.MIN_VALUE, -1000000, -11, -2, -1, 10, 11, 12, 13, 30, 31, 60, 61, 99,
         100, 127, 128, 999999, 1000000, Integer.MAX_VALUE};
@@ -17,9 +19,11 @@ public final class AgainstModelTest {
     private final ZoeModel model = new ZoeModel();
     private final List<String> told = new ArrayList<>();
     private boolean right = true;
+    private int calls = 0;
 
     private AgainstModelTest(long seed) {
-        random = new Random(seed);
+        // Small seeds side by side give nearly the same first numbers, so they are spread.
+        random = new Random(seed * 0x9E3779B97F4A7C15L);
     }
 
     public static void main(String[] args) {
@@ -39,41 +43,34 @@ public final class AgainstModelTest {
 
     private void go() {
         int wildOneIn = random.nextBoolean() ? 4 : 40;
-        int calls = random.nextInt(6) == 0 ? turnNearTheEnd() : 0;
-        while (right && calls < 500) {
+        if (random.nextInt(6) == 0) turnNearTheEnd();
+        while (right && calls < MOST_CALLS) {
             int kind = random.nextInt(30);
-            if (kind == 0) calls += typeText(text());
-            else if (kind == 1 && random.nextInt(4) != 0) calls += drawAll();
-            else {
-                call(CALLS[random.nextInt(CALLS.length)], wildOneIn);
-                calls++;
-            }
+            if (kind == 0) typeText(text());
+            else if (kind == 1 && random.nextInt(4) != 0) drawAll();
+            else call(CALLS[random.nextInt(CALLS.length)], wildOneIn);
             both("digest");
-            calls++;
         }
     }
 
     /** A drum with eyes, a few FLASHES ahead of the last one, which an object's 512 calls can just reach. */
-    private int turnNearTheEnd() {
+    private void turnNearTheEnd() {
         both("drum", 2 + random.nextInt(11), random.nextInt(6), random.nextInt(12));
         drawAll();
         for (int i = random.nextInt(6); i > 0; i--) both("eye", random.nextInt(6));
         for (int i = 0; i < 166; i++) both("spins", 60);
         both("spins", 1 + random.nextInt(39));
-        return 190;
     }
 
-    private int typeText(String text) {
+    private void typeText(String text) {
         both("clear");
         for (int i = 0; i < text.length(); i++) both("type", text.charAt(i));
         both("read");
-        return text.length() + 2;
     }
 
-    private int drawAll() {
-        int n = (int) strips.count(0);
+    private void drawAll() {
+        int n = model.frames();
         for (int f = 0; f < n; f++) both("draws", f, random.nextInt(10));
-        return n;
     }
 
     /** Mostly a text that can be read, with a token spoiled now and then. */
@@ -161,7 +158,7 @@ public final class AgainstModelTest {
     }
 
     private int[] likelySeen() {
-        return new int[] {1 + random.nextInt(30), strips.drawn(random.nextInt((int) strips.count(0)))};
+        return new int[] {1 + random.nextInt(30), model.drawing(random.nextInt(model.frames()))};
     }
 
     /** Notes and marks that are so by some kind leave more to tell than ones out of the air. */
@@ -176,7 +173,8 @@ public final class AgainstModelTest {
     }
 
     private void both(String name, int... a) {
-        if (!right) return;
+        if (!right || calls == MOST_CALLS) return;
+        calls++;
         long want = model.answer(name, a);
         long got = Calls.answer(strips, name, a);
         told.add("  " + name + java.util.Arrays.toString(a) + " " + got);

@@ -439,14 +439,17 @@ public final class ForeseenTest extends Checks {
 
     /** By the answers of began alone: what most of those that fit have in common, behind k flashes. */
     private static int reallyTell(ZoeStrips x) {
-        int best = -1, fewest = MAX, n = x.count(0);
+        int best = -1, fewest = MAX, n = x.count(0), lamp = x.count(1);
+        int[] fitting = new int[x.began(-1)], strip = new int[n];
+        for (int j = 0; j < fitting.length; j++) fitting[j] = x.began(j);
+        for (int f = 0; f < n; f++) strip[f] = x.drawn(f);
         for (int k = 1; k <= 30; k++) {
             int[] with = new int[10];
             int most = 0;
-            for (int j = 0; j < x.began(-1); j++) {
-                int code = x.began(j), frame = code / 12;
-                for (int flash = 1; flash <= k; flash++) frame += ZoeModel.passed(x.count(1), code % 12, flash);
-                most = Math.max(most, ++with[x.drawn(frame % n)]);
+            for (int code : fitting) {
+                int frame = code / 12;
+                for (int flash = 1; flash <= k; flash++) frame += ZoeModel.passed(lamp, code % 12, flash);
+                most = Math.max(most, ++with[strip[frame % n]]);
             }
             if (most < fewest) {
                 fewest = most;
@@ -615,13 +618,16 @@ public final class ForeseenTest extends Checks {
     /** All the 2^n ways in which flashes are seen or not, each by its odds. */
     private static long ways(ZoeStrips x, int e, int saw, int n, int c) {
         long sum = 0;
+        int kind = x.of(e, 0), keptNow = x.of(e, 1);
+        int[] atHand = new int[n];
+        for (int i = 0; i < n; i++) atHand[i] = x.drawn(x.at(i + 1));
         for (int way = 0; way < 1 << n; way++) {
-            int kept = x.of(e, 1);
+            int kept = keptNow;
             long odds = 1;
-            for (int i = 1; i <= n; i++) {
-                boolean unseen = (way >> i - 1 & 1) == 1;
+            for (int i = 0; i < n; i++) {
+                boolean unseen = (way >> i & 1) == 1;
                 odds *= unseen ? c : 10 - c;
-                if (!unseen) kept = ZoeModel.saw(x.of(e, 0), x.drawn(x.at(i)), kept);
+                if (!unseen) kept = ZoeModel.saw(kind, atHand[i], kept);
             }
             if (kept == saw) sum += odds;
         }

@@ -86,6 +86,10 @@ public final class LanguageTest {
                 Matcher m = Pattern.compile(never).matcher(code);
                 right(!m.find(), "line " + (i + 1) + " has " + never);
             }
+            // No call makes an object: one run of many calls has one room for all of them.
+            boolean makesNone = !code.matches(".*\\bnew\\b.*");
+            right(makesNone || code.matches("\\s+(private )?final [\\w\\[\\]]+ \\w+ = new .*;"),
+                    "line " + (i + 1) + " makes an object outside of a constructor");
             right(line.length() <= 120, "line " + (i + 1) + " is long");
             right(line.chars().allMatch(c -> c < 127), "line " + (i + 1) + " has a strange sign");
             if (code.matches("\\s+(public|private|static|int|long|void|boolean).*\\) \\{")) start = i;

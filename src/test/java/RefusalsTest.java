@@ -199,8 +199,8 @@ public final class RefusalsTest extends Checks {
     }
 
     private static void noEyes() {
-        ZoeStrips x = new ZoeStrips();
         for (int e : new int[] {MIN, -1, 0, 1, 4, 5, MAX}) {
+            ZoeStrips x = new ZoeStrips();
             bad(x, "of", e, 0);
             bad(x, "sees", e, 0);
             bad(x, "most", e, 1, 0);
@@ -212,6 +212,7 @@ public final class RefusalsTest extends Checks {
             bad10(x, "hands", 0, e, -1);
         }
         // An eye is there behind eye(), and no more behind drum().
+        ZoeStrips x = new ZoeStrips();
         x.eye(0);
         due("sees(0, 0)", x.sees(0, 0), 0);
         x.drum(2, 0, 0);
@@ -240,14 +241,17 @@ public final class RefusalsTest extends Checks {
         int[] wild = {MIN, MIN + 1, -1000000, -10, -5, -2, -1, 0, 1, 2, 5, 9, 12, 30, 60, 99, 127, 999999, MAX - 1, MAX};
         for (int frames : new int[] {2, 12}) {
             for (int eyes : new int[] {0, 5}) {
-                for (int first : wild) {
-                    ZoeStrips x = ready(frames, eyes);
-                    for (int second : wild) for (Range r : ranges(frames, 4)) Calls.answer(x, r.call, spread(r, first, second));
-                    for (int second : wild) Calls.answer(x, "hands", first, second, second);
-                    Whole.told(x);
-                }
+                for (int first : wild) for (int second : wild) wildCalls(frames, eyes, first, second);
             }
         }
+    }
+
+    private static void wildCalls(int frames, int eyes, int first, int second) {
+        ZoeStrips x = ready(frames, eyes);
+        for (Range r : ranges(frames, 4)) Calls.answer(x, r.call, spread(r, first, second));
+        Calls.answer(x, "hands", first, second, second);
+        Calls.answer(x, "hands", first, second, first);
+        Whole.told(x);
     }
 
     private static int[] spread(Range range, int first, int second) {

@@ -103,6 +103,14 @@ final class ZoeModel {
         return in(e, 0, now.eyes.size() - 1);
     }
 
+    int frames() {
+        return now.n;
+    }
+
+    int drawing(int f) {
+        return now.strip[f];
+    }
+
     long answer(String call, int[] a) {
         switch (call) {
             case "drum": return drum(a[0], a[1], a[2]);
