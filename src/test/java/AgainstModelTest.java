@@ -20,6 +20,9 @@ public final class AgainstModelTest {
     private final List<String> told = new ArrayList<>();
     private boolean right = true;
     private int calls = 0;
+    /** Of so many calls one has a wrong number. */
+    private int wildOneIn;
+    private boolean nearTheEnd;
 
     private AgainstModelTest(long seed) {
         // Small seeds side by side give nearly the same first numbers, so they are spread.
@@ -27,28 +30,35 @@ public final class AgainstModelTest {
     }
 
     public static void main(String[] args) {
-        int wrong = 0;
+        int wrong = 0, fewWild = 0, nearTheEnd = 0;
         for (long seed = 1; seed <= 600 && wrong < 3; seed++) {
             AgainstModelTest run = new AgainstModelTest(seed);
             run.go();
+            if (run.wildOneIn == 40) fewWild++;
+            if (run.nearTheEnd) nearTheEnd++;
             if (!run.right) {
                 wrong++;
                 System.out.println("seed " + seed + ":");
                 run.told.forEach(System.out::println);
             }
         }
+        if (wrong == 0 && (fewWild < 200 || fewWild > 400 || nearTheEnd < 50)) {
+            wrong++;
+            System.out.println("runs are not of all sorts: " + fewWild + " with few wrong numbers, " + nearTheEnd + " near the end");
+        }
         System.out.println(wrong == 0 ? "AgainstModelTest: all answers are alike" : "AgainstModelTest: runs differ");
         if (wrong != 0) System.exit(1);
     }
 
     private void go() {
-        int wildOneIn = random.nextBoolean() ? 4 : 40;
-        if (random.nextInt(6) == 0) turnNearTheEnd();
+        wildOneIn = random.nextBoolean() ? 4 : 40;
+        nearTheEnd = random.nextInt(6) == 0;
+        if (nearTheEnd) turnNearTheEnd();
         while (right && calls < MOST_CALLS) {
             int kind = random.nextInt(30);
             if (kind == 0) typeText(text());
             else if (kind == 1 && random.nextInt(4) != 0) drawAll();
-            else call(CALLS[random.nextInt(CALLS.length)], wildOneIn);
+            else call(CALLS[random.nextInt(CALLS.length)]);
             both("digest");
         }
     }
@@ -117,7 +127,7 @@ public final class AgainstModelTest {
         }
     }
 
-    private void call(String name, int wildOneIn) {
+    private void call(String name) {
         int[] a = likely(name);
         if (a.length > 0 && random.nextInt(wildOneIn) == 0) {
             a[random.nextInt(a.length)] = WILD[random.nextInt(WILD.length)];
